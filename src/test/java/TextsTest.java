@@ -74,6 +74,7 @@ public final class TextsTest {
         error("1:6p10", false, 5);
         error("1:6p1o", false, 5);
         error("1:6p1~0", false, 6);
+        error("1:6p1~10", false, 7);
         error("1:6p1~11", false, 7);
         error("1:6p1~1~", false, 7);
         error("1:6p1;", false, 5);
