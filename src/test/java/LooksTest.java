@@ -13,24 +13,17 @@ public final class LooksTest {
         Checks.end("LooksTest");
     }
 
-    private static void row(String what, int[] want, java.util.function.IntUnaryOperator look) {
-        for (int i = 0; i < want.length; i++) {
-            int at = i;
-            Checks.due(what + " " + i, want[i], () -> look.applyAsInt(at));
-        }
-    }
-
     private static void sheet() {
         SlantOaths x = Checks.alike(3);
         Checks.lay(x, "10:20op5~3,12:24op6~3,12:24p6~1", 40);
         Checks.lay(x, "10:20op5~3,12:24p6~1", 39);
         x.swear(2, 1, true);
         x.swear(2, 3, false);
-        row("16: sheet 0", new int[] {2, 1, 1, 0, 0, 0, 0}, w -> x.sheet(0, w));
-        row("16: sheet 1", new int[] {2, 1, 1, 0, 1, 1, 0}, w -> x.sheet(1, w));
-        row("16: sheet 2", new int[] {2, 1, 1, 0, 1, 2, 0}, w -> x.sheet(2, w));
-        row("16: sheet 3", new int[] {3, 40, 2, 1, 3, 1, 1}, w -> x.sheet(3, w));
-        row("16: sheet 4", new int[] {2, 39, 1, 0, 4, 0, 0}, w -> x.sheet(4, w));
+        Checks.row("16: sheet 0", new int[] {2, 1, 1, 0, 0, 0, 0}, w -> x.sheet(0, w));
+        Checks.row("16: sheet 1", new int[] {2, 1, 1, 0, 1, 1, 0}, w -> x.sheet(1, w));
+        Checks.row("16: sheet 2", new int[] {2, 1, 1, 0, 1, 2, 0}, w -> x.sheet(2, w));
+        Checks.row("16: sheet 3", new int[] {3, 40, 2, 1, 3, 1, 1}, w -> x.sheet(3, w));
+        Checks.row("16: sheet 4", new int[] {2, 39, 1, 0, 4, 0, 0}, w -> x.sheet(4, w));
         x.set(6, 1);
         Checks.due("16: faded by a setting", 1, () -> x.sheet(0, 6));
         x.set(7, 0);
@@ -47,10 +40,10 @@ public final class LooksTest {
     private static void stroke() {
         SlantOaths x = new SlantOaths();
         Checks.lay(x, "-7:8op9~1,0:60p1", 3);
-        row("17: stroke 0", new int[] {93, 8, 1, 9, 1}, w -> x.stroke(0, 0, w));
-        row("17: stroke 1", new int[] {100, 60, 0, 1, 0}, w -> x.stroke(0, 1, w));
-        row("17: stroke 2", new int[] {-1, -1, -1, -1, -1}, w -> x.stroke(0, 2, w));
-        row("17: stroke 7", new int[] {-1, -1, -1, -1, -1}, w -> x.stroke(0, 7, w));
+        Checks.row("17: stroke 0", new int[] {93, 8, 1, 9, 1}, w -> x.stroke(0, 0, w));
+        Checks.row("17: stroke 1", new int[] {100, 60, 0, 1, 0}, w -> x.stroke(0, 1, w));
+        Checks.row("17: stroke 2", new int[] {-1, -1, -1, -1, -1}, w -> x.stroke(0, 2, w));
+        Checks.row("17: stroke 7", new int[] {-1, -1, -1, -1, -1}, w -> x.stroke(0, 7, w));
         for (int bad : WRONG) {
             Checks.refuses("17: sheet " + bad, x, Checks.INDEX, () -> x.stroke(bad, 8, 5));
             Checks.refuses("17: stroke " + bad, x, Checks.ARGUMENT, () -> x.stroke(0, bad, 0));
@@ -67,10 +60,10 @@ public final class LooksTest {
         Checks.lay(x, "-1:5p3,0:6p3", 99);
         Checks.lay(x, "-45:60op7", 40);
         Checks.lay(x, "45:60op9,-45:1p1", 40);
-        row("18: sheet 0", new int[] {996, 1012, 1012, 1050, 1057, 1026}, m -> x.mark(0, m));
-        row("18: sheet 1", new int[] {999, 1001, 1000, 1000, 1030, 1000}, m -> x.mark(1, m));
-        row("18: sheet 2", new int[] {955, 1000, 1010, 1100, 1070, 1000}, m -> x.mark(2, m));
-        row("18: sheet 3", new int[] {1000, 1090, 1020, 1050, 1050, 1080}, m -> x.mark(3, m));
+        Checks.row("18: sheet 0", new int[] {996, 1012, 1012, 1050, 1057, 1026}, m -> x.mark(0, m));
+        Checks.row("18: sheet 1", new int[] {999, 1001, 1000, 1000, 1030, 1000}, m -> x.mark(1, m));
+        Checks.row("18: sheet 2", new int[] {955, 1000, 1010, 1100, 1070, 1000}, m -> x.mark(2, m));
+        Checks.row("18: sheet 3", new int[] {1000, 1090, 1020, 1050, 1050, 1080}, m -> x.mark(3, m));
         for (int bad : WRONG) {
             Checks.refuses("18: sheet " + bad, x, Checks.INDEX, () -> x.mark(bad, 6));
             Checks.refuses("18: mark " + bad, x, Checks.ARGUMENT, () -> x.mark(0, bad));
@@ -85,16 +78,16 @@ public final class LooksTest {
         Checks.lay(x, "14:20op5", 1);
         Checks.lay(x, "15:20op5", 1);
         Checks.lay(x, "10:20p6", 1);
-        row("19: with itself", new int[] {6, 63, 1, 1, -1}, w -> x.compare(0, 0, w));
-        row("19: by just the tolerance", new int[] {6, 63, 0, 0, -1}, w -> x.compare(0, 1, w));
-        row("19: by one more", new int[] {5, 62, 0, 0, -1}, w -> x.compare(0, 2, w));
-        row("19: without a loop", new int[] {3, 35, 0, 0, -1}, w -> x.compare(3, 0, w));
+        Checks.row("19: with itself", new int[] {6, 63, 1, 1, -1}, w -> x.compare(0, 0, w));
+        Checks.row("19: by just the tolerance", new int[] {6, 63, 0, 0, -1}, w -> x.compare(0, 1, w));
+        Checks.row("19: by one more", new int[] {5, 62, 0, 0, -1}, w -> x.compare(0, 2, w));
+        Checks.row("19: without a loop", new int[] {3, 35, 0, 0, -1}, w -> x.compare(3, 0, w));
         x.swear(0, 1, true);
         x.swear(2, 1, true);
         x.swear(3, 0, false);
-        row("19: through another", new int[] {5, 62, 1, 1, -1}, w -> x.compare(2, 0, w));
-        row("19: an oath", new int[] {6, 63, 1, 1, 1}, w -> x.compare(1, 0, w));
-        row("19: an oath of two hands", new int[] {3, 35, 0, 0, 0}, w -> x.compare(0, 3, w));
+        Checks.row("19: through another", new int[] {5, 62, 1, 1, -1}, w -> x.compare(2, 0, w));
+        Checks.row("19: an oath", new int[] {6, 63, 1, 1, 1}, w -> x.compare(1, 0, w));
+        Checks.row("19: an oath of two hands", new int[] {3, 35, 0, 0, 0}, w -> x.compare(0, 3, w));
         x.set(0, 5);
         Checks.due("19: a greater tolerance", 6, () -> x.compare(0, 2, 0));
         for (int bad : WRONG) {
@@ -128,17 +121,17 @@ public final class LooksTest {
         x.swear(1, 0, true);
         x.swear(1, 2, true);
         x.swear(3, 1, false);
-        row("20: oath 0", new int[] {1, 0, 1, 1}, w -> x.oath(0, w));
-        row("20: oath 1", new int[] {1, 2, 1, 1}, w -> x.oath(1, w));
-        row("20: oath 2", new int[] {3, 1, 0, 0}, w -> x.oath(2, w));
-        row("20: oath 3", new int[] {-1, -1, -1, -1}, w -> x.oath(3, w));
-        row("20: far behind", new int[] {-1, -1, -1, -1}, w -> x.oath(Integer.MAX_VALUE, w));
+        Checks.row("20: oath 0", new int[] {1, 0, 1, 1}, w -> x.oath(0, w));
+        Checks.row("20: oath 1", new int[] {1, 2, 1, 1}, w -> x.oath(1, w));
+        Checks.row("20: oath 2", new int[] {3, 1, 0, 0}, w -> x.oath(2, w));
+        Checks.row("20: oath 3", new int[] {-1, -1, -1, -1}, w -> x.oath(3, w));
+        Checks.row("20: far behind", new int[] {-1, -1, -1, -1}, w -> x.oath(Integer.MAX_VALUE, w));
         x.swear(2, 0, true);
-        row("20: in a ring 0", new int[] {1, 0, 1, 0}, w -> x.oath(0, w));
-        row("20: in a ring 1", new int[] {1, 2, 1, 0}, w -> x.oath(1, w));
-        row("20: in a ring 3", new int[] {2, 0, 1, 0}, w -> x.oath(3, w));
+        Checks.row("20: in a ring 0", new int[] {1, 0, 1, 0}, w -> x.oath(0, w));
+        Checks.row("20: in a ring 1", new int[] {1, 2, 1, 0}, w -> x.oath(1, w));
+        Checks.row("20: in a ring 3", new int[] {2, 0, 1, 0}, w -> x.oath(3, w));
         x.recant(1, 0);
-        row("20: the ring is open", new int[] {1, 2, 1, 1}, w -> x.oath(0, w));
+        Checks.row("20: the ring is open", new int[] {1, 2, 1, 1}, w -> x.oath(0, w));
         for (int bad : new int[] {-1, 4, Integer.MIN_VALUE, Integer.MAX_VALUE}) {
             Checks.refuses("20: what " + bad, x, Checks.ARGUMENT, () -> x.oath(0, bad));
             Checks.refuses("20: what of none " + bad, x, Checks.ARGUMENT, () -> x.oath(20, bad));
@@ -151,10 +144,10 @@ public final class LooksTest {
             }
         }
         Checks.due("20: all 28", 28, () -> full.count(1));
-        row("20: the last one", new int[] {7, 6, 1, 0}, w -> full.oath(27, w));
-        row("20: none behind", new int[] {-1, -1, -1, -1}, w -> full.oath(28, w));
+        Checks.row("20: the last one", new int[] {7, 6, 1, 0}, w -> full.oath(27, w));
+        Checks.row("20: none behind", new int[] {-1, -1, -1, -1}, w -> full.oath(28, w));
         Checks.due("20: seven go", 7, () -> full.drop(3));
-        row("20: the last one then", new int[] {6, 5, 1, 0}, w -> full.oath(20, w));
+        Checks.row("20: the last one then", new int[] {6, 5, 1, 0}, w -> full.oath(20, w));
     }
 
     private static void count() {
@@ -165,7 +158,7 @@ public final class LooksTest {
         x.swear(3, 1, false);
         x.recant(3, 1);
         x.swear(1, 3, false);
-        row("21: count", new int[] {5, 3, 2, 3, 3, 1, 4, 10, 4, 10, 3, 20, 8, 6, 40, 2, 4, 6}, x::count);
+        Checks.row("21: count", new int[] {5, 3, 2, 3, 3, 1, 4, 10, 4, 10, 3, 20, 8, 6, 40, 2, 4, 6}, x::count);
         x.set(8, 5);
         Checks.due("21: the faded one is less alike", 6, () -> x.count(7));
         x.set(8, 0);

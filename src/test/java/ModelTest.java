@@ -30,10 +30,14 @@ public final class ModelTest {
         }
     }
 
+    /** What an object answers behind its last call is not promised, so nothing is asked then. */
     private void same(String call, Checks.Call got, Checks.Call want) {
+        if (calls >= CALLS) {
+            return;
+        }
         calls++;
         Checks.due("run " + run + ", call " + calls + ": " + call, Checks.answer(want), got);
-        if (random.nextInt(8) == 0) {
+        if (random.nextInt(8) == 0 && calls < CALLS) {
             calls++;
             Checks.due("run " + run + ", digest behind " + call, y.digest(), x::digest);
         }

@@ -122,7 +122,7 @@ public final class WouldBeTest {
             none.set(i, 0);
         }
         Checks.due("26: not alike at all", 0.0, none::handShare);
-        Checks.due("27: the bits of 0.0", byHand(none, ""), none::digest);
+        Checks.due("27: the bits of 0.0", Checks.digestByHand(none, ""), none::digest);
     }
 
     private static void digestOfNothing() {
@@ -138,7 +138,7 @@ public final class WouldBeTest {
         x.keep();
         Checks.due("27: the snapshot is not told", once, x::digest);
         Checks.write(x, "a~");
-        Checks.due("27: the buffer is told", byHand(x, "a~"), x::digest);
+        Checks.due("27: the buffer is told", Checks.digestByHand(x, "a~"), x::digest);
         Checks.holds("27: the buffer is told twice", () -> x.digest() != once);
     }
 
@@ -147,67 +147,21 @@ public final class WouldBeTest {
         Checks.lay(x, "-3:20op5~3,-4:24p6~1,9:60op1", 40);
         Checks.lay(x, "10:20op5,12:24p6,13:25p6", 31);
         Checks.lay(x, "10:20op5~9,12:24p6", 0);
-        Checks.due("27: sheets", byHand(x, ""), x::digest);
+        Checks.due("27: sheets", Checks.digestByHand(x, ""), x::digest);
         x.swear(0, 1, true);
         x.set(8, 2);
         x.swear(3, 1, true);
         x.swear(0, 2, false);
-        Checks.due("27: oaths", byHand(x, ""), x::digest);
+        Checks.due("27: oaths", Checks.digestByHand(x, ""), x::digest);
         Checks.work(x, "l0/3;u1/3");
         Checks.write(x, "y1;d");
-        Checks.due("27: a stop", byHand(x, "y1;d"), x::digest);
+        Checks.due("27: a stop", Checks.digestByHand(x, "y1;d"), x::digest);
         Checks.due("27: the same again", x.digest(), x::digest);
         for (int years = 1; years < 60; years += 7) {
             x.pass(years);
-            Checks.due("27: older", byHand(x, "y1;d"), x::digest);
+            Checks.due("27: older", Checks.digestByHand(x, "y1;d"), x::digest);
         }
         x.drop(1);
-        Checks.due("27: one less", byHand(x, "y1;d"), x::digest);
-    }
-
-    /** The digest by the other calls of the face, as the document lists them. */
-    private static long byHand(SlantOaths x, String buffer) {
-        java.util.List<Long> values = new java.util.ArrayList<>();
-        for (int what = 0; what < 18; what++) {
-            values.add((long) x.count(what));
-        }
-        for (int i = 0; i < x.count(0); i++) {
-            for (int what = 0; what < 7; what++) {
-                values.add((long) x.sheet(i, what));
-            }
-            for (int k = 0; k < x.sheet(i, 0); k++) {
-                for (int what = 0; what < 5; what++) {
-                    values.add((long) x.stroke(i, k, what));
-                }
-            }
-            for (int mark = 0; mark < 6; mark++) {
-                values.add((long) x.mark(i, mark));
-            }
-            values.add((long) x.nearest(i));
-            for (int j = 0; j < x.count(0); j++) {
-                for (int what = 0; what < 5; what++) {
-                    values.add((long) x.compare(i, j, what));
-                }
-                values.add((long) x.whyNot(i, j, true));
-                values.add((long) x.whyNot(i, j, false));
-            }
-        }
-        for (int k = 0; k < x.count(1); k++) {
-            for (int what = 0; what < 4; what++) {
-                values.add((long) x.oath(k, what));
-            }
-        }
-        values.add((long) x.stopped(0));
-        values.add((long) x.stopped(1));
-        values.add(Double.doubleToLongBits(x.handShare()));
-        values.add((long) buffer.length());
-        for (char c : buffer.toCharArray()) {
-            values.add((long) c);
-        }
-        long hash = 3919L;
-        for (long value : values) {
-            hash = 31L * hash + value;
-        }
-        return hash;
+        Checks.due("27: one less", Checks.digestByHand(x, "y1;d"), x::digest);
     }
 }
