@@ -199,7 +199,7 @@ public final class LookBoundsTest {
         }
         Checks.due("the last call", 6, () -> x.count(17));
         SlantOaths y = new SlantOaths();
-        for (int call = 1; call <= 504; call += 8) {
+        for (int call = 1; call <= 504; call += 9) {
             Checks.due("lay, call " + call, 0, () -> Checks.lay(y, "0:9op5", 1));
             y.undo();
         }
@@ -303,5 +303,15 @@ public final class LookBoundsTest {
                 Checks.due(sheets + " sheets, tolerance " + m + ", share", y.handShare(), x::handShare);
             }
         }
+        SlantOaths none = new SlantOaths();
+        Checks.lay(none, "0:1p1,1:60p9,-45:1p1", 0);
+        Checks.lay(none, "45:60op9", 0);
+        for (int m = 0; m < 6; m++) {
+            none.set(m, 0);
+        }
+        none.set(8, 0);
+        none.swear(0, 1, true);
+        Checks.due("the least share", 0.0, none::handShare);
+        Checks.due("its bits", Checks.digestByHand(none, ""), none::digest);
     }
 }

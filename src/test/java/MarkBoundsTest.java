@@ -21,6 +21,7 @@ public final class MarkBoundsTest {
         pressureSteps();
         meanOfMeans();
         fading();
+        notYetFaded();
         fadingMarks();
         toldMark();
         oneStroke();
@@ -161,6 +162,33 @@ public final class MarkBoundsTest {
         Checks.due("a year before", 0, () -> y.pass(1) == 39 ? y.sheet(0, 6) : -1);
         Checks.due("by passing", 1, () -> y.pass(1) == 40 ? y.sheet(0, 6) : -1);
         Checks.due("and back", 0, () -> y.undo() < 0 ? -1 : y.sheet(0, 6));
+    }
+
+    /** All that goes by a likeness goes by the likeness of now, a year before the marks fade. */
+    private static void notYetFaded() {
+        Checks.of("if the sheet is setting 6 years old");
+        SlantOaths x = new SlantOaths();
+        Checks.lay(x, "0:9op5", 39);
+        Checks.lay(x, "0:9op5", 39);
+        Checks.lay(x, "0:9op5", 37);
+        x.set(8, 6);
+        Checks.due("likeness", 6, () -> x.compare(0, 1, 0));
+        Checks.due("pairs", 3, () -> x.count(7));
+        Checks.due("it can be sworn", 2, () -> x.swear(0, 1, true));
+        Checks.due("share", 1.0, x::handShare);
+        Checks.due("the lowest one is as near", 1, () -> x.nearest(0));
+        Checks.due("in a year", 4, () -> x.ifPassed(0, 1, 1));
+        x.pass(1);
+        Checks.due("likeness then", 4, () -> x.compare(0, 1, 0));
+        Checks.due("pairs then", 0, () -> x.count(7));
+        Checks.due("not then", 4, () -> x.whyNot(0, 2, true));
+        Checks.due("share then", 4 / 6.0, x::handShare);
+        SlantOaths y = new SlantOaths();
+        Checks.lay(y, "0:9op5", 39);
+        Checks.lay(y, "0:9p5", 39);
+        Checks.lay(y, "9:9op5", 39);
+        Checks.due("the nearest one has a loop", 2, () -> y.nearest(0));
+        Checks.due("the nearest one has its slant then", 1, () -> y.pass(1) < 0 ? -1 : y.nearest(0));
     }
 
     private static void fadingMarks() {
@@ -349,8 +377,10 @@ public final class MarkBoundsTest {
             Checks.lay(x, "0:1p1~3", 0);
             Checks.due("all of them", sheets, () -> x.count(5));
         }
+        x.drop(0);
+        Checks.due("seven are left", 7, () -> x.count(5));
         x.set(7, 3);
-        Checks.due("none of eight", 0, () -> x.count(5));
+        Checks.due("none of seven", 0, () -> x.count(5));
     }
 
     private static void nearest() {

@@ -387,6 +387,15 @@ public final class OathBoundsTest {
         Checks.due("and none behind them", -1, () -> full.oath(27, 0));
         Checks.due("it can be sworn again", 1, () -> full.swear(7, 6, true));
         Checks.due("as the newest one", 7, () -> full.oath(27, 0));
+        SlantOaths mixed = everyPair(8, false);
+        mixed.recant(6, 7);
+        mixed.swear(6, 7, true);
+        Checks.due("the only one of 28 that joins", 7, () -> mixed.count(3));
+        mixed.recant(6, 7);
+        Checks.row("it joins nothing more", new int[] {8, 27, 0, 8, 1}, mixed::count);
+        Checks.due("found by going", 0, () -> mixed.compare(6, 7, 2));
+        Checks.due("found by joining", 0, () -> mixed.compare(6, 7, 3));
+        Checks.due("it is no oath of theirs", 6, () -> mixed.sheet(7, 5));
     }
 
     private static void recantNone() {

@@ -247,11 +247,11 @@ public final class SheetBoundsTest {
         Checks.refuses("the last one again", full, Checks.INDEX, () -> full.drop(7));
     }
 
-    /** Sheets of ages 0, 1, 2 and so on, with oaths of neighbours, by turns of one hand and of two. */
+    /** Sheets of ages and slants 0, 1, 2 and so on, with oaths of neighbours, by turns of one hand and of two. */
     private static SlantOaths row() {
         SlantOaths x = new SlantOaths();
         for (int i = 0; i < 6; i++) {
-            Checks.lay(x, "0:9op5", i);
+            Checks.lay(x, i + ":9op5", i);
         }
         for (int i = 0; i < 5; i++) {
             x.swear(i + 1, i, i % 2 == 0);
@@ -298,17 +298,23 @@ public final class SheetBoundsTest {
             x.drop(gone);
             for (int i = 0; i < 5; i++) {
                 int sheet = i;
-                Checks.due(gone + " goes, age of " + i, i < gone ? i : i + 1, () -> x.sheet(sheet, 1));
+                int was = i < gone ? i : i + 1;
+                Checks.due(gone + " goes, age of " + i, was, () -> x.sheet(sheet, 1));
+                Checks.due(gone + " goes, stroke of " + i, 100 + was, () -> x.stroke(sheet, 0, 0));
+                Checks.due(gone + " goes, mark of " + i, 1000 + was, () -> x.mark(sheet, 0));
             }
             Checks.due(gone + " goes, no sheet 5", Checks.INDEX, () -> x.sheet(5, 1));
         }
-        SlantOaths full = Checks.table(8);
-        Checks.due("the eighth one gets older", 9, () -> full.pass(9));
-        full.drop(7);
-        Checks.lay(full, "0:9op5", 3);
+        SlantOaths full = Checks.table(7);
+        full.pass(9);
+        Checks.lay(full, "7:9op5", 3);
         full.drop(0);
         Checks.due("of a full table", 3, () -> full.sheet(6, 1));
+        Checks.due("of a full table, its stroke", 107, () -> full.stroke(6, 0, 0));
         Checks.due("and the one before it", 9, () -> full.sheet(5, 1));
+        Checks.due("and its stroke", 100, () -> full.stroke(5, 0, 0));
+        Checks.due("a new one has the number that is free", 7, () -> Checks.lay(full, "8:9op5", 4));
+        Checks.due("and leaves the one before it", 107, () -> full.stroke(6, 0, 0));
     }
 
     private static void passAtMost99() {
