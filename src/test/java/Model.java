@@ -257,19 +257,26 @@ final class Model {
         for (int i = 0; i < now.sheets().size(); i++) {
             hands.add(new TreeSet<>(Set.of(i)));
         }
-        for (int round = 0; round < 8; round++) {
+        boolean isChanged = true;
+        while (isChanged) {
+            isChanged = false;
             for (Oath o : oaths) {
-                for (Set<Integer> one : hands) {
-                    for (Set<Integer> two : hands) {
-                        if (o.like() && one.contains(o.first()) && two.contains(o.second())) {
-                            one.addAll(two);
-                            two.addAll(one);
-                        }
-                    }
-                }
+                isChanged |= o.like() && putTogether(hands, o);
             }
         }
         return new ArrayList<>(new LinkedHashSet<>(hands));
+    }
+
+    private static boolean putTogether(List<Set<Integer>> hands, Oath o) {
+        boolean isChanged = false;
+        for (Set<Integer> one : hands) {
+            for (Set<Integer> two : hands) {
+                if (one.contains(o.first()) && two.contains(o.second())) {
+                    isChanged |= one.addAll(two) | two.addAll(one);
+                }
+            }
+        }
+        return isChanged;
     }
 
     private boolean together(List<Oath> oaths, int a, int b) {
